@@ -168,14 +168,10 @@ public final class TapeMachine {
         core[a & WORD] = w & WORD;
     }
 
-    private void skip() {
-        pc = next(pc);
-        skipCount++;
-    }
-
     private void skipIf(boolean holds) {
         if (holds) {
-            skip();
+            pc = next(pc);
+            skipCount++;
         }
     }
 

@@ -9,6 +9,7 @@ public final class DeviceCodesTest {
         bufferIsOred();
         emptyTape();
         printer();
+        knownWordsChangeNothingElse();
         allOthersDoNothing();
         CHECKS.end();
     }
@@ -135,8 +136,30 @@ public final class DeviceCodesTest {
     }
 
     private static void nothingDue(int word) {
-        // Both flags are set and a byte is on the tape, so that a word that did something would show.
-        TapeMachine machine = Checks.loaded(0200, 06032, 06044, word, word);
+        allDue(word, 05670, 0203, 0, 1, 0123, 1);
+        CHECKS.due("word " + Integer.toOctalString(word) + ", printed", flagged(word).printed(-1), 1);
+    }
+
+    private static void knownWordsChangeNothingElse() {
+        //     word,  AC,    PC,   DELAY, reader's flag, BUFFER, printer's flag
+        allDue(06001, 05670, 0203, 1, 1, 0123, 1);
+        allDue(06002, 05670, 0203, 0, 1, 0123, 1);
+        allDue(06030, 05670, 0203, 0, 0, 0123, 1);
+        allDue(06031, 05670, 0204, 0, 1, 0123, 1);
+        allDue(06032, 0, 0203, 0, 1, 0321, 1);
+        allDue(06034, 05773, 0203, 0, 1, 0123, 1);
+        allDue(06036, 0123, 0203, 0, 1, 0321, 1);
+        allDue(06041, 05670, 0204, 0, 1, 0123, 1);
+        allDue(06042, 05670, 0203, 0, 1, 0123, 0);
+        allDue(06044, 05670, 0203, 0, 1, 0123, 1);
+        allDue(06046, 05670, 0203, 0, 1, 0123, 1);
+        CHECKS.due("06044 prints one byte", flagged(06044).printed(-1), 2);
+        CHECKS.due("06046 prints one byte", flagged(06046).printed(-1), 2);
+    }
+
+    /** One step of the word with both flags set and a byte on the tape, so that all it does shows. */
+    private static TapeMachine flagged(int word) {
+        TapeMachine machine = Checks.loaded(0200, 06032, 06044, word);
         machine.feed(0123);
         machine.feed(0321);
         machine.run(2);
@@ -145,13 +168,17 @@ public final class DeviceCodesTest {
         machine.set(Checks.MQ, 2);
         machine.set(Checks.SR, 3);
         machine.run(1);
-        int[] want = {05670, 1, 0203, 2, 3, 0, 0, 1, 0123, 1, 0};
+        return machine;
+    }
+
+    private static void allDue(int word, int ac, int pc, int delay, int readerFlag, int buffer, int printerFlag) {
+        TapeMachine machine = flagged(word);
+        int[] want = {ac, 1, pc, 2, 3, 0, delay, readerFlag, buffer, printerFlag, 0};
         String what = "word " + Integer.toOctalString(word);
         for (int k = 0; k < want.length; k++) {
             CHECKS.due(what + ", register " + k, machine.register(k), want[k]);
         }
-        CHECKS.due(what + ", waiting", machine.waiting(), 1);
-        CHECKS.due(what + ", printed", machine.printed(-1), 1);
-        CHECKS.due(what + ", skips", machine.skips(), 0);
+        CHECKS.due(what + ", waiting", machine.waiting(), buffer == 0321 ? 0 : 1);
+        CHECKS.due(what + ", skips", machine.skips(), pc - 0203);
     }
 }

@@ -68,7 +68,7 @@ public final class RunTest {
         TapeMachine machine = Checks.loaded(07777, 07001, Checks.HALT);
         CHECKS.due("run over the end", machine.run(10), 2);
         CHECKS.registersDue("over the end", machine, 1, 0, 1);
-        // Set to 07777 in HERE's place, the skip lands on 1.
+        // PC is 0 already when the word at 07777 skips.
         TapeMachine skipping = Checks.loaded(07777, 07410, Checks.HALT, 07001);
         skipping.run(1);
         CHECKS.registersDue("skip over the end", skipping, 0, 0, 1);
