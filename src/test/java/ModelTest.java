@@ -22,6 +22,8 @@ public final class ModelTest {
     public static void main(String[] args) {
         for (int seed = 0; seed < RUNS; seed++) {
             new ModelTest(seed).calls();
+            // One run that went apart tells enough: the rest would bury it.
+            CHECKS.end();
         }
         for (int word = 07000; word <= 07777; word++) {
             everyAccumulator(word);
