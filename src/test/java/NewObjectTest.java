@@ -1,3 +1,5 @@
+import java.util.Map;
+
 /** Promise 1: a new object. */
 public final class NewObjectTest {
     private static final Checks CHECKS = new Checks();
@@ -7,6 +9,7 @@ public final class NewObjectTest {
         allRegistersAreZero();
         nothingIsDone();
         objectsShareNothing();
+        allThatCanBeSeenIsNew();
         CHECKS.end();
     }
 
@@ -48,5 +51,16 @@ public final class NewObjectTest {
         allRegistersAreZero();
         nothingIsDone();
         CHECKS.due("another object's core", new TapeMachine().peek(0), 0);
+    }
+
+    /** "nothing set, not halted; no tape, nothing printed, nothing done", and room for 400 bytes. */
+    private static void allThatCanBeSeenIsNew() {
+        for (Map.Entry<String, Integer> seen : Whole.after(Setup.fresh(), m -> { }).entrySet()) {
+            String name = seen.getKey();
+            boolean isNumbered = name.startsWith("printed ") || name.startsWith("trace ");
+            int want = isNumbered ? -1 : name.equals("room") ? 400 : 0;
+            CHECKS.due("new, " + name, seen.getValue(), want);
+            CHECKS.due("new, a byte on the tape", name.startsWith("tape "), false);
+        }
     }
 }
