@@ -18,6 +18,7 @@ public final class DeviceEdgesTest {
         printerFlagTakenAway();
         lowestEightBitsArePrinted();
         printingAgainKeepsTheFlag();
+        knownWordsWithBothFlags();
         wordsBesideTheKnownOnes();
         CHECKS.end();
     }
@@ -146,6 +147,30 @@ public final class DeviceEdgesTest {
                 "prints=2 printed_0=6 printed_1=5 PC=0302");
     }
 
+    /** Both flags set and a byte on the tape: each word does its own work and none of another's. */
+    private static void knownWordsWithBothFlags() {
+        flaggedDue(06001, "DELAY=1 PC=0303");
+        flaggedDue(06002, "PC=0303");
+        flaggedDue(06030, "RFLAG=0 PC=0303");
+        flaggedDue(06031, "PC=0304 skips=1");
+        flaggedDue(06032, "AC=0 BUFFER=0321 waiting=0 tape_0=-2 PC=0303");
+        flaggedDue(06034, "AC=05373 PC=0303");
+        flaggedDue(06036, "AC=0123 BUFFER=0321 waiting=0 tape_0=-2 PC=0303");
+        flaggedDue(06041, "PC=0304 skips=1");
+        flaggedDue(06042, "PFLAG=0 PC=0303");
+        flaggedDue(06044, "prints=2 printed_0=0252 printed_1=0 PC=0303");
+        flaggedDue(06046, "prints=2 printed_0=0252 printed_1=0 PC=0303");
+    }
+
+    private static Setup flagged(int word) {
+        return Setup.at(0300, 06032, 06046, word).fed(0123, 0321).ran(2).ac(05252).link(1)
+                .register(Checks.MQ, 1).register(Checks.SR, 2);
+    }
+
+    private static void flaggedDue(int word, String changes) {
+        CHECKS.stepDue("word " + Checks.octal(word) + " with both flags", flagged(word), changes);
+    }
+
     /** "All others: nothing": the words one off the known ones, and the first and last of code 6. */
     private static void wordsBesideTheKnownOnes() {
         int[] others = {
@@ -153,9 +178,7 @@ public final class DeviceEdgesTest {
             06101, 06130, 06136, 06146, 06201, 06232, 06246, 06401, 06402, 06431, 06446, 06776, 06777,
         };
         for (int word : others) {
-            Setup setup = Setup.at(0300, 06032, 06046, word).fed(0123, 0321).ran(2).ac(05252).link(1)
-                    .register(Checks.MQ, 1).register(Checks.SR, 2);
-            CHECKS.stepDue("word " + Checks.octal(word), setup, "PC=0303");
+            flaggedDue(word, "PC=0303");
             CHECKS.stepDue("word " + Checks.octal(word) + " with ION", Setup.at(0300, 06001, 0, word).ran(2), "PC=0303");
         }
     }

@@ -220,6 +220,8 @@ public final class OperateEdgesTest {
         allDue(07404, 0, 07777, "AC=07777 PC=0201");
         allDue(07404, 05252, 02525, "AC=07777 PC=0201");
         allDue(07404, 07777, 0, "PC=0201");
+        allDue(07404, 07777, 07777, "PC=0201");
+        allDue(07404, 05252, 06006, "AC=07256 PC=0201");
         allDue(07604, 05252, 02525, "AC=02525 PC=0201");
         allDue(07604, 05252, 0, "AC=0 PC=0201");
         allDue(07402, 05252, 07777, "PC=0201 HALTED=1");
