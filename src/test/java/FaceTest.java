@@ -20,6 +20,7 @@ public final class FaceTest {
         innerClassesAreStatic();
         staticFieldsAreFinal(TapeMachine.class);
         forbiddenWordsAreAbsent();
+        sizesStaySmall();
         CHECKS.end();
     }
 
@@ -72,6 +73,7 @@ public final class FaceTest {
     private static void innerClassesAreStatic() {
         for (Class<?> c : TapeMachine.class.getDeclaredClasses()) {
             CHECKS.due(c.getName() + " is static", Modifier.isStatic(c.getModifiers()), true);
+            CHECKS.due(c.getName() + " is open", has(c.getModifiers(), Modifier.PUBLIC | Modifier.PROTECTED), false);
             staticFieldsAreFinal(c);
         }
     }
@@ -88,16 +90,39 @@ public final class FaceTest {
         CHECKS.due(c.getName() + " has at most twenty fields", own <= 20, true);
     }
 
-    private static void forbiddenWordsAreAbsent() throws IOException {
-        String code = Files.readString(SOURCE)
+    private static boolean has(int modifiers, int some) {
+        return (modifiers & some) != 0;
+    }
+
+    private static String code() throws IOException {
+        return Files.readString(SOURCE)
                 .replaceAll("(?s)/\\*.*?\\*/", "")
                 .replaceAll("//.*", "");
+    }
+
+    private static void forbiddenWordsAreAbsent() throws IOException {
+        String code = code();
         String[] forbidden = {
             "\\b(throw|throws|try|catch|synchronized|assert|import|package|protected)\\b",
             "->", "::", "\\bstatic\\s*\\{", "\\bSystem\\.(?!arraycopy)", "Exact\\b",
         };
         for (String f : forbidden) {
             CHECKS.due("the program holds " + f, Pattern.compile(f).matcher(code).find(), false);
+        }
+    }
+
+    /** Rule 11: seven parameters, methods of some sixty lines, some twelve classes. */
+    private static void sizesStaySmall() throws IOException {
+        CHECKS.due("at most twelve classes", TapeMachine.class.getDeclaredClasses().length < 12, true);
+        for (Method m : TapeMachine.class.getDeclaredMethods()) {
+            CHECKS.due(m.getName() + " takes at most seven", m.getParameterCount() <= 7, true);
+        }
+        int lines = 0;
+        for (String line : code().split("\n")) {
+            // A method of the class begins at four places and ends there.
+            lines = line.matches(" {4}\\w.*\\{") ? 1 : lines + 1;
+            boolean ends = line.equals("    }");
+            CHECKS.due("a method or a class inside of " + lines + " lines", ends && lines > 60, false);
         }
     }
 }
